@@ -33,6 +33,12 @@ final class FileTest {
         Check.due("bytes", Looks.bytes(index),
                 "86 1 2 1 1 1 5 6 7 8 1 45 1 46 1 47 1 48 1 2 0 100 200 107 68");
         Check.due("save() again", index.save(), 25);
+        index.add(256, 0, 0, 0, 0);
+        index.add(512, 0, 0, 0, 0);
+        Check.due("save() with more", index.save(), 37);
+        Check.due("bytes", Looks.bytes(index), text(Looks.checked(86, 1, 2, 1, 1, 3, 5, 6, 7, 8,
+                1, 45, 1, 46, 1, 47, 1, 48, 1, 0, 100, 100, 100, 100, 1, 2, 0, 100, 200, 107,
+                2, 0, 100, 100, 100, 100)));
         Check.due("load()", index.load(), 0);
     }
 

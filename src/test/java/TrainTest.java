@@ -55,6 +55,9 @@ final class TrainTest {
         flat("1,0,0,0 9,0,0,0", 2, 1, line(0, 3, 6, 1, 12, 1, 8, 2));
         flat("0,0,0,0 8,0,0,0", 2, 2, line(0, 3, 6, 1, 12, 1, 8, 2));
         flat("0,0,0,0 8,0,0,0", 2, 8, line(0, 3, 6, 1, 12, 1, 8, 2));
+        // the centre -1 of 1 and -2 loses the 1 and moves to its only member
+        flat("3,0,0,0 -1,0,0,0", 2, 1, line(5, 1, 2, 1, 1, 1, -2, 1));
+        flat("2,0,0,0 -2,0,0,0", 2, 2, line(5, 1, 2, 1, 1, 1, -2, 1));
     }
 
     private static void clusteringFillsEmptyCentres() {
@@ -70,6 +73,11 @@ final class TrainTest {
         flat("0,0,0,0 10,0,0,0 11,0,0,0 11,0,0,0", 4, 1, line(0, 1, 10, 5));
         flat("3,4,5,6 4,4,5,6", 2, 1, 3, 4, 5, 6);
         flat("100,4,5,6 101,4,5,6", 2, 8, 100, 4, 5, 6);
+        // rounding down moves centre 0 away from all items: it has no members in the third round
+        int[] six = {1, 0, -1, 0, 1, 0, 0, 0, -1, 0, 0, -1, 0, 1, 1, 1, 1, 0, 1, 1, 0, -1, 0, 0};
+        flat("0,-1,-1,-1 0,0,1,1", 2, 1, six);
+        flat("0,-1,-1,-1 0,0,0,0", 2, 2, six);
+        flat("1,0,0,0 0,0,0,0", 2, 3, six);
     }
 
     private static void promise4Product() {
@@ -102,6 +110,15 @@ final class TrainTest {
         Check.due("words", Looks.words(below), "-5 -4 -2 0 / 0 0 0 0 / 0 0 0 0 / 0 0 0 0");
         Check.due("train(1, 1, 1, 0)", below.train(1, 1, 1, 0), 25);
         Check.due("words", Looks.words(below), "-5 / 0 / 0 / 0");
+        QuantisedLists above = Looks.withSamples(line(-5, 1, 0, 1));
+        Check.due("train(1, 1, 2, 0)", above.train(1, 1, 2, 0), 0);
+        Check.due("words", Looks.words(above), "0 5 / 0 0 / 0 0 / 0 0");
+        QuantisedLists full = new QuantisedLists();
+        for (int i = 0; i < 24; i++) {
+            full.sample(50 - i, i, 0, 0);
+        }
+        Check.due("train(1, 1, 2, 0) with 24 samples", full.train(1, 1, 2, 0), 2024);
+        Check.due("words", Looks.words(full), "-23 0 / 0 23 / 0 0 / 0 0");
     }
 
     private static void promise4Flat() {
