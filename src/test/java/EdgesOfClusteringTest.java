@@ -1,6 +1,9 @@
 import java.util.Arrays;
 
-/** The edges that the document names for clustering, seen in the centres of a FLAT index; above each test is its sentence. */
+/**
+ * The edges that the document names for clustering, seen in the centres of a FLAT index; above each test is its
+ * sentence.
+ */
 final class EdgesOfClusteringTest {
     /**
      * Sorted: -97 -86 -81 -64 -42 -28 -23 -16 -13 -6 -5 -1 12 12 31 34 44 60 62 63 71 95 99. To two centres, every
@@ -52,7 +55,10 @@ final class EdgesOfClusteringTest {
         return all;
     }
 
-    /** "CLUSTERING some items (points or parts of points, at least one, in an order) to c centres 0 .. c - 1 in r rounds" */
+    /**
+     * "CLUSTERING some items (points or parts of points, at least one, in an order) to c centres 0 .. c - 1 in r
+     * rounds"
+     */
     private static void oneItem() {
         for (int rounds = 0; rounds <= 8; rounds += 4) {
             clusters("one item to one centre", 1, rounds, "-7", -7);
@@ -98,12 +104,15 @@ final class EdgesOfClusteringTest {
         Run.of("9 rounds", Run.line(SLOW), "train 2 2 1 9 = -3; train 2 2 1 -1 = -3; centres =");
     }
 
-    /** "is clustered in the same number of rounds": the one centre is 12 before and 5, the mean, after the first round. */
+    /**
+     * "is clustered in the same number of rounds": the one centre is 12 before and 5, the mean, after the first round.
+     */
     private static void roundsOfWords() {
         for (int r = 0; r <= 8; r++) {
             int centre = r == 0 ? 12 : 5;
             Run.of(r + " rounds for words", Run.line(SLOW), "train 1 0 2 " + r, "centres = " + centre + ",0,0,0",
-                    "word 0 0 0 = " + (SLOW_CENTRES[r][0] - centre) + "; word 0 1 0 = " + (SLOW_CENTRES[r][1] - centre));
+                    "word 0 0 0 = " + (SLOW_CENTRES[r][0] - centre) + "; "
+                            + "word 0 1 0 = " + (SLOW_CENTRES[r][1] - centre));
         }
     }
 
@@ -111,6 +120,9 @@ final class EdgesOfClusteringTest {
     private static void meanOfEachCoordinate() {
         Run.of("means", "sample 1 -1 10 -10; sample 2 -2 11 -12; sample -100 100 0 0; train 2 2 1 1",
                 "centres = 1,-2,10,-11 -100,100,0,0");
+        // in the second round the centre at -1 keeps one of its two members, -2, and moves to it
+        clusters("two members", 2, 1, "3 -1", 5, 2, 1, -2);
+        clusters("one member", 2, 2, "2 -2", 5, 2, 1, -2);
         Run.of("24 members", Run.line(times(0, 23)) + Run.line(24), "train 1 2 1 1; centres = 1,0,0,0");
         Run.of("24 members, a little less", Run.line(times(0, 23)) + Run.line(23), "train 1 2 1 1; centres = 0,0,0,0");
         Run.of("24 members below 0", Run.line(times(0, 23)) + Run.line(-1), "train 1 2 1 1; centres = -1,0,0,0");
@@ -128,7 +140,8 @@ final class EdgesOfClusteringTest {
 
     /** "and for every centre e without members, from the least number up" */
     private static void fromTheLeastNumberUp() {
-        // shares 4 0 0 0; 2 2 0 0; 1 2 1 0; 1 1 1 1: from the greatest number down, centre 1 would be the last and get 9
+        // shares 4 0 0 0; 2 2 0 0; 1 2 1 0; 1 1 1 1
+        // from the greatest number down centre 1 would be the last and come from centre 3, at 9
         clusters("from 1 to 3", 4, 1, "7 8 8 9", times(7, 4));
         clusters("with a centre behind them", 4, 1, "0 10 1 11", 0, 0, 0, 10, 10, 10);
     }
@@ -144,7 +157,8 @@ final class EdgesOfClusteringTest {
     private static void whatItIsAtThatTime() {
         // shares 6 0 0 0; 3 3 0 0; 2 3 1 0: centre 1, filled before, is 8 at that time
         clusters("a centre that was filled", 4, 1, "7 8 8 9", times(7, 6));
-        // in the third round all items are members of centre 0, which moves from 0,0 to -1,0 before centre 1 becomes 0,0
+        // in the third round all items are members of centre 0, which moves from 0,0 to -1,0 first;
+        // then centre 1 becomes 0,0
         String five = "sample 1 1 0 0; sample -1 0 0 0; sample 0 0 0 0; sample 0 -1 0 0; sample -1 0 0 0";
         Run.of("two rounds", five, "train 2 2 1 2; centres = 0,0,0,0 -1,-1,0,0");
         Run.of("the mean of this round", five, "train 2 2 1 3; centres = -1,0,0,0 0,0,0,0");
@@ -180,18 +194,24 @@ final class EdgesOfClusteringTest {
         clusters("shares 4 and 3", 4, 1, "7 90 8 91", join(times(7, 4), times(90, 3)));
     }
 
-    /** "for every centre e without members": rounding down has moved centre 0 away from all items by the third round. */
+    /**
+     * "for every centre e without members": rounding down has moved centre 0 away from all items by the third round.
+     */
     private static void emptyAfterSomeRounds() {
-        String six = "sample 1 0 -1 0; sample 1 0 0 0; sample -1 0 0 -1; sample 0 1 1 1; sample 1 0 1 1; sample 0 -1 0 0";
+        String six = "sample 1 0 -1 0; sample 1 0 0 0; sample -1 0 0 -1; sample 0 1 1 1; sample 1 0 1 1; "
+                + "sample 0 -1 0 0";
         Run.of("first round", six, "train 2 2 1 1; centres = 0,-1,-1,-1 0,0,1,1");
         Run.of("second round", six, "train 2 2 1 2; centres = 0,-1,-1,-1 0,0,0,0");
         Run.of("third round", six, "train 2 2 1 3; centres = 1,0,0,0 0,0,0,0");
         Run.of("fourth round", six, "train 2 2 1 4; centres = 1,0,0,0 -1,0,0,0");
     }
 
-    /** "with 1 added to its first coordinate": a centre may lie outside the range of points, and be saved and loaded. */
+    /**
+     * "with 1 added to its first coordinate": a centre may lie outside the range of points, and be saved and loaded.
+     */
     private static void overTheRangeOfPoints() {
         Run.of("centres over 100", Run.line(times(100, 4)), "train 4 2 1 8 = 0; centres = " + onLine("100 101 101 102"),
-                "add 1 100 0 0 0 = 0; search 100 0 0 0 1 = 1; save = 49; load = 0; centres = " + onLine("100 101 101 102"));
+                "add 1 100 0 0 0 = 0; search 100 0 0 0 1 = 1; save = 49; load = 0; "
+                        + "centres = " + onLine("100 101 101 102"));
     }
 }

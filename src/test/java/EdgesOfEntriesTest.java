@@ -1,4 +1,7 @@
-/** The edges that the document names for a new object, entries and promises 1, 2 and 7 to 11; above each test is its sentence. */
+/**
+ * The edges that the document names for a new object, entries and promises 1, 2 and 7 to 11; above each test is its
+ * sentence.
+ */
 final class EdgesOfEntriesTest {
     private static final String[] FAR = {"least", "greatest", "-2147483647", "65536", "-65536", "1256", "-256"};
     private static final String FLAT = "sample 0 0 0 0; sample 10 0 0 0; train 2 2 1 0";
@@ -35,7 +38,8 @@ final class EdgesOfEntriesTest {
         Run.of("no entries", "remove 0 = false; remove 1 = false; listOf 0 = -1; codeOf 0 = -1; listOf 999 = -1");
         Run.of("not trained", "add 1 0 0 0 0 = -1; search 0 0 0 0 1 = -1; centre 0 0 = -1000; word 0 0 0 = -1000",
                 "entries 0 = -1; save = -1; turn 1 2 3 4 = true");
-        Run.of("an empty file", "byteAt 0 = -1; cut 1 = false; alter 1 0 = false; load = 1; cut 0 = true; alter 0 0 = true");
+        Run.of("an empty file", "byteAt 0 = -1; cut 1 = false; alter 1 0 = false; load = 1; cut 0 = true; "
+                + "alter 0 0 = true");
         Run.of("no results", "hit 0 = -1; far 0 = -1; scanned = 0");
     }
 
@@ -66,7 +70,8 @@ final class EdgesOfEntriesTest {
     /** "False when these are no turn, or the index is trained.": by a training */
     private static void turnOfATrainedIndex() {
         Run.of("trained", "turn 2 1 4 3 = true; sample 1 2 3 4; turn 4 3 2 1 = true; train 5 2 1 0 = -3",
-                "turn 3 4 1 2 = true; train 1 2 1 0 = 0; turn 4 3 2 1 = false; turn 3 4 1 2 = false; turn 1 2 3 4 = false",
+                "turn 3 4 1 2 = true; train 1 2 1 0 = 0; turn 4 3 2 1 = false; turn 3 4 1 2 = false; "
+                        + "turn 1 2 3 4 = false",
                 "turn 1 1 3 4 = false; centres = 3,4,1,2; train 1 2 1 0 = 0; centres = 3,4,1,2");
     }
 
@@ -94,14 +99,17 @@ final class EdgesOfEntriesTest {
         for (int id = 0; id < 20; id++) {
             file.append("0 ").append(id).append(" 100 100 100 100 ");
         }
-        Run.of("20 entries of a file", file + "check; load = 0; entries 0 = 20; add 20 0 0 0 0 = -5; add 19 0 0 0 0 = -4",
+        Run.of("20 entries of a file", file + "check; load = 0; entries 0 = 20; add 20 0 0 0 0 = -5; "
+                + "add 19 0 0 0 0 = -4",
                 "remove 19; add 20 0 0 0 0 = 0; add 19 0 0 0 0 = -5");
     }
 
     /** "have an ID 0 .. 999" and "-2 when id is not 0 .. 999" */
     private static void idsInRange() {
-        Run run = new Run("ids").go(FLAT).go("add 0 0 0 0 0 = 0; add 999 10 0 0 0 = 1; add 255 0 0 0 0 = 0; add 256 10 0 0 0 = 1");
-        run.go("add 1 0 0 0 0 = 0; add 998 10 0 0 0 = 1; add -1 0 0 0 0 = -2; add 1000 0 0 0 0 = -2; add 1001 0 0 0 0 = -2");
+        Run run = new Run("ids").go(FLAT).go("add 0 0 0 0 0 = 0; add 999 10 0 0 0 = 1; add 255 0 0 0 0 = 0; "
+                + "add 256 10 0 0 0 = 1");
+        run.go("add 1 0 0 0 0 = 0; add 998 10 0 0 0 = 1; add -1 0 0 0 0 = -2; add 1000 0 0 0 0 = -2; "
+                + "add 1001 0 0 0 0 = -2");
         for (String id : FAR) {
             run.go("add " + id + " 0 0 0 0 = -2; listOf " + id + " = -1");
         }
@@ -110,7 +118,8 @@ final class EdgesOfEntriesTest {
 
     /** "(no two the same)" and "-4 when there is an entry with that id" */
     private static void noTwoTheSame() {
-        Run.of("an id twice", FLAT, "add 5 0 0 0 0 = 0; add 5 10 0 0 0 = -4; add 5 0 0 0 0 = -4; listOf 5 = 0; entries 0 = 1",
+        Run.of("an id twice", FLAT, "add 5 0 0 0 0 = 0; add 5 10 0 0 0 = -4; add 5 0 0 0 0 = -4; listOf 5 = 0; "
+                + "entries 0 = 1",
                 "entries 1 = 0; remove 5; add 5 10 0 0 0 = 1; listOf 5 = 1; add 5 0 0 0 0 = -4; add 261 0 0 0 0 = 0");
         Run.of("the least and the greatest id twice", FLAT, "add 0 0 0 0 0 = 0; add 999 0 0 0 0 = 0",
                 "add 0 1 0 0 0 = -4; add 999 1 0 0 0 = -4; entries 0 = 2");
@@ -126,7 +135,8 @@ final class EdgesOfEntriesTest {
 
     /** "-1 when not trained" */
     private static void notTrained() {
-        Run.of("not trained", "add 1 0 0 0 0 = -1; sample 0 0 0 0; add 1 0 0 0 0 = -1; train 0 0 0 0 = -3; add 1 0 0 0 0 = -1",
+        Run.of("not trained", "add 1 0 0 0 0 = -1; sample 0 0 0 0; add 1 0 0 0 0 = -1; train 0 0 0 0 = -3; "
+                + "add 1 0 0 0 0 = -1",
                 "train 1 2 1 0 = 0; add 1 0 0 0 0 = 0");
     }
 
@@ -145,14 +155,17 @@ final class EdgesOfEntriesTest {
             for (int id = 1; id <= 4; id++) {
                 run.go("listOf " + id + " = " + (id == gone ? -1 : id == 1 || id == 3 ? 0 : 1));
             }
-            run.go("entries 0 = " + (gone % 2 == 0 ? 2 : 1) + "; add " + gone + " 0 0 0 0 = 0; remove " + gone + " = true");
+            run.go("entries 0 = " + (gone % 2 == 0 ? 2 : 1) + "; add " + gone + " 0 0 0 0 = 0; "
+                    + "remove " + gone + " = true");
         }
     }
 
     /** "false when there is none with that id": remove */
     private static void notThereToRemove() {
-        Run run = new Run("none with that id").go("remove 0 = false").go(FLAT).go("remove 0 = false; add 5 0 0 0 0; add 999 0 0 0 0");
-        run.go("remove 4 = false; remove 6 = false; remove 0 = false; remove -1 = false; remove 998 = false; remove 1000 = false");
+        Run run = new Run("none with that id").go("remove 0 = false").go(FLAT).go("remove 0 = false; add 5 0 0 0 0; "
+                + "add 999 0 0 0 0");
+        run.go("remove 4 = false; remove 6 = false; remove 0 = false; remove -1 = false; remove 998 = false; "
+                + "remove 1000 = false");
         for (String id : FAR) {
             run.go("remove " + id + " = false");
         }
@@ -161,7 +174,8 @@ final class EdgesOfEntriesTest {
 
     /** "The list of an entry; NONE when there is none with that id." */
     private static void listsOfEntries() {
-        Run run = new Run("lists").go("listOf 0 = -1; listOf 5 = -1").go(FLAT).go("listOf 0 = -1; add 0 0 0 0 0; add 999 10 0 0 0");
+        Run run = new Run("lists").go("listOf 0 = -1; listOf 5 = -1").go(FLAT).go("listOf 0 = -1; add 0 0 0 0 0; "
+                + "add 999 10 0 0 0");
         run.go("listOf 0 = 0; listOf 999 = 1; listOf 1 = -1; listOf 998 = -1; listOf -1 = -1; listOf 1000 = -1");
         for (String id : FAR) {
             run.go("listOf " + id + " = -1");
@@ -180,17 +194,23 @@ final class EdgesOfEntriesTest {
         run.go("remove 0; codeOf 0 = -1; codeOf 999 = 0");
     }
 
-    /** "The code of an entry as one number: the sum, over the parts p, of the number of its word times codes to the power p (0 for FLAT)" */
+    /**
+     * "The code of an entry as one number: the sum, over the parts p, of the number of its word times codes to the
+     * power p (0 for FLAT)"
+     */
     private static void codesOfEachKind() {
-        Run.of("product with 4 codes", "sample 0 0 0 0; sample 9 0 9 0; sample 0 9 0 9; sample 9 9 9 9; train 1 0 4 0 = 0",
+        Run.of("product with 4 codes", "sample 0 0 0 0; sample 9 0 9 0; sample 0 9 0 9; sample 9 9 9 9; "
+                + "train 1 0 4 0 = 0",
                 "words = 0,0 9,9 9,0 0,9 / 0,0 9,9 9,0 0,9",
                 "add 0 0 0 0 0; add 1 9 9 0 0; add 2 0 0 9 9; add 3 0 9 0 9; add 4 9 0 0 9",
                 "codeOf 0 = 0; codeOf 1 = 1; codeOf 2 = 4; codeOf 3 = 15; codeOf 4 = 14");
         Run.of("scalar with 4 codes", "sample 0 0 0 0; sample 9 9 9 9; train 1 1 4 0 = 0",
                 "words = 0 3 6 9 / 0 3 6 9 / 0 3 6 9 / 0 3 6 9", "add 0 -100 -100 -100 -100; add 1 100 100 100 100",
                 "add 2 0 3 6 9; add 3 3 0 0 0; add 4 0 3 0 0; add 5 0 0 3 0; add 6 0 0 0 3",
-                "codeOf 0 = 0; codeOf 1 = 255; codeOf 2 = 228; codeOf 3 = 1; codeOf 4 = 4; codeOf 5 = 16; codeOf 6 = 64");
-        Run.of("flat with 4 codes", "sample 0 0 0 0; sample 9 9 9 9; train 1 2 4 0 = 0; add 1 100 100 100 100; codeOf 1 = 0");
+                "codeOf 0 = 0; codeOf 1 = 255; codeOf 2 = 228; codeOf 3 = 1; codeOf 4 = 4; codeOf 5 = 16; "
+                        + "codeOf 6 = 64");
+        Run.of("flat with 4 codes", "sample 0 0 0 0; sample 9 9 9 9; train 1 2 4 0 = 0; add 1 100 100 100 100; "
+                + "codeOf 1 = 0");
     }
 
     private static void powersOfCodes() {
@@ -204,7 +224,8 @@ final class EdgesOfEntriesTest {
             Run.of("product with " + codes, "sample 0 0 0 0; sample 9 9 9 9; train 1 0 " + codes + " 0",
                     "add 1 9 9 9 9; codeOf 1 = " + product[codes - 1]);
         }
-        Run.of("product with 3", "sample 0 0 0 0; sample 9 9 9 9; sample 9 0 9 0; train 1 0 3 0; words = 0,0 9,9 9,0 / 0,0 9,9 9,0",
+        Run.of("product with 3", "sample 0 0 0 0; sample 9 9 9 9; sample 9 0 9 0; train 1 0 3 0; "
+                + "words = 0,0 9,9 9,0 / 0,0 9,9 9,0",
                 "add 1 9 0 9 0; codeOf 1 = 8; add 2 9 0 0 0; codeOf 2 = 2; add 3 0 0 9 0; codeOf 3 = 6");
     }
 
@@ -220,8 +241,10 @@ final class EdgesOfEntriesTest {
     /** "NONE when not trained, or there is no such list": entries */
     private static void countsOfNoList() {
         for (int lists = 1; lists <= 4; lists++) {
-            Run run = new Run("counts of " + lists).go("entries 0 = -1; sample 0 0 0 0; entries 0 = -1; train " + lists + " 2 1 0");
-            run.go("entries 0 = 0; entries " + (lists - 1) + " = 0; entries " + lists + " = -1; entries -1 = -1; entries 5 = -1");
+            Run run = new Run("counts of " + lists).go("entries 0 = -1; sample 0 0 0 0; entries 0 = -1; "
+                    + "train " + lists + " 2 1 0");
+            run.go("entries 0 = 0; entries " + (lists - 1) + " = 0; entries " + lists + " = -1; entries -1 = -1; "
+                    + "entries 5 = -1");
             for (String list : FAR) {
                 run.go("entries " + list + " = -1");
             }

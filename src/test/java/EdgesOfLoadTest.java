@@ -8,7 +8,8 @@ final class EdgesOfLoadTest {
         1, 44, 1, 44, 1, 44, 1, 49, 1, 44, 1, 44, 1, 51, 1, 44,
         0, 5, 100, 100, 100, 100, 1, 44, 110, 104, 106, 100};
     private static final int ENTRIES = 42;
-    private static final String UNCHANGED = "save = -1; centre 0 0 = -1000; entries 0 = -1; listOf 5 = -1; turn 2 1 3 4 = true";
+    private static final String UNCHANGED = "save = -1; centre 0 0 = -1000; entries 0 = -1; listOf 5 = -1; "
+            + "turn 2 1 3 4 = true";
 
     public static void main(String[] args) {
         wellFormed();
@@ -82,9 +83,13 @@ final class EdgesOfLoadTest {
         return all;
     }
 
-    /** "When it is well-formed, the index is trained, with kind, lists, codes, turn, centres, words and entries of the file alone": all of it */
+    /**
+     * "When it is well-formed, the index is trained, with kind, lists, codes, turn, centres, words and entries of the
+     * file alone": all of it
+     */
     private static void wellFormed() {
-        Run.of("well-formed", file(BASE), "load = 0; centres = 0,0,0,0 10,0,0,0; words = 0,0 0,5 / 0,0 7,0; listOf 5 = 0; listOf 300 = 1",
+        Run.of("well-formed", file(BASE), "load = 0; centres = 0,0,0,0 10,0,0,0; words = 0,0 0,5 / 0,0 7,0; "
+                + "listOf 5 = 0; listOf 300 = 1",
                 "codeOf 5 = 0; codeOf 300 = 3; entries 0 = 1; entries 1 = 1; entries 2 = -1; save = 55");
     }
 
@@ -94,7 +99,8 @@ final class EdgesOfLoadTest {
                 for (int codes = 1; codes <= 4; codes++) {
                     for (int n = 0; n <= 20; n += 10) {
                         int[] bytes = zeros(kind, lists, codes, n);
-                        Run.of("size", file(bytes), "load = 0; entries 0 = " + n + "; entries " + (lists - 1) + " = " + (lists == 1 ? n : 0),
+                        Run.of("size", file(bytes), "load = 0; entries 0 = " + n + "; "
+                                + "entries " + (lists - 1) + " = " + (lists == 1 ? n : 0),
                                 "entries " + lists + " = -1; word 0 " + (codes - 1) + " 0 = " + (kind == 2 ? -1000 : 0),
                                 "word 0 " + codes + " 0 = -1000; save = " + (bytes.length + 1));
                     }
@@ -105,25 +111,31 @@ final class EdgesOfLoadTest {
 
     /** "the index is trained" */
     private static void theIndexIsTrained() {
-        Run.of("trained", "save = -1; search 0 0 0 0 1 = -1; add 9 0 0 0 0 = -1", file(BASE), "load = 0; search 0 0 0 0 1 = 1; add 9 0 0 0 0 = 0",
+        Run.of("trained", "save = -1; search 0 0 0 0 1 = -1; add 9 0 0 0 0 = -1", file(BASE), "load = 0; "
+                + "search 0 0 0 0 1 = 1; add 9 0 0 0 0 = 0",
                 "turn 1 2 3 4 = false; train 1 0 1 0 = -1");
     }
 
     /** "(lists and codes of the entries are worked out anew, as by add)" */
     private static void workedOutAnew() {
         // 5 is between the lists and goes to the first, at 0,3 / 4,0 it is nearest to the second words
-        Run.of("between the lists", file(with(44, 105, 45, 103, 46, 104)), "load = 0; listOf 5 = 0; codeOf 5 = 3; remove 5",
+        Run.of("between the lists", file(with(44, 105, 45, 103, 46, 104)), "load = 0; listOf 5 = 0; codeOf 5 = 3; "
+                + "remove 5",
                 "add 5 5 3 4 0 = 0; codeOf 5 = 3; add 6 6 2 3 0 = 1; codeOf 6 = 0");
         // t0 = -1: what was at -10 is at 10
-        Run.of("by the turn of the file", "turn 4 3 2 1", file(with(6, 3, 44, 90)), "load = 0; listOf 5 = 1; listOf 300 = 0; codeOf 300 = 3");
+        Run.of("by the turn of the file", "turn 4 3 2 1", file(with(6, 3, 44, 90)), "load = 0; listOf 5 = 1; "
+                + "listOf 300 = 0; codeOf 300 = 3");
         Run.of("equal words", file(with(33, 44)), "load = 0; words = 0,0 0,0 / 0,0 7,0; codeOf 300 = 2");
     }
 
     /** "of the file alone": nothing of what was there before is left. */
     private static void ofTheFileAlone() {
-        Run.of("other entries, lists and words", "turn 2 1 4 3; sample 1 2 3 4; sample 50 50 50 50; train 4 1 4 1; add 5 9 9 9 9; add 6 9 9 9 9; add 301 1 1 1 1",
-                file(BASE), "load = 0; centres = 0,0,0,0 10,0,0,0; words = 0,0 0,5 / 0,0 7,0; listOf 6 = -1; listOf 301 = -1; codeOf 6 = -1",
-                "entries 0 = 1; entries 1 = 1; entries 2 = -1; entries 3 = -1; word 2 0 0 = -1000; search 0 0 0 0 8 = 1; results = 5:0",
+        Run.of("other entries, lists and words", "turn 2 1 4 3; sample 1 2 3 4; sample 50 50 50 50; train 4 1 4 1; "
+                + "add 5 9 9 9 9; add 6 9 9 9 9; add 301 1 1 1 1",
+                file(BASE), "load = 0; centres = 0,0,0,0 10,0,0,0; words = 0,0 0,5 / 0,0 7,0; listOf 6 = -1; "
+                        + "listOf 301 = -1; codeOf 6 = -1",
+                "entries 0 = 1; entries 1 = 1; entries 2 = -1; entries 3 = -1; word 2 0 0 = -1000; "
+                        + "search 0 0 0 0 8 = 1; results = 5:0",
                 "remove 5; remove 300; train 1 2 1 0 = 0; centres = 1,2,3,4");
     }
 
@@ -134,7 +146,8 @@ final class EdgesOfLoadTest {
     }
 
     private static void loadedTwice() {
-        Run.of("twice", file(BASE), "load = 0; load = 0; entries 0 = 1; entries 1 = 1; add 7 0 0 0 0; remove 5; load = 0",
+        Run.of("twice", file(BASE), "load = 0; load = 0; entries 0 = 1; entries 1 = 1; add 7 0 0 0 0; remove 5; "
+                + "load = 0",
                 "entries 0 = 1; listOf 7 = -1; listOf 5 = 0");
     }
 
@@ -143,7 +156,8 @@ final class EdgesOfLoadTest {
         String bytes = file(BASE).substring("file ".length());
         Run.of("loaded", file(BASE), "load = 0; bytes = " + bytes, "add 7 0 0 0 0; load = 0; bytes = " + bytes);
         Run.of("refused", "file 86 1 2 3; load = 1; bytes = 86 1 2 3");
-        Run.of("refused by its last reason", file(with(44, 201)), "load = 9; byteAt 44 = 201; byteAt 54 = " + checkOf(with(44, 201)),
+        Run.of("refused by its last reason", file(with(44, 201)), "load = 9; byteAt 44 = 201; "
+                + "byteAt 54 = " + checkOf(with(44, 201)),
                 "byteAt 55 = -1");
     }
 
@@ -157,15 +171,19 @@ final class EdgesOfLoadTest {
 
     /** "PROBES, REFINE, samples and results stay too.": PROBES and REFINE */
     private static void effortStays() {
-        Run.of("PROBES and REFINE", "effort 2 1", file(BASE), "load = 0; search 10 0 0 0 8 = 2; results = 300:52 5:100; scanned = 2");
+        Run.of("PROBES and REFINE", "effort 2 1", file(BASE), "load = 0; search 10 0 0 0 8 = 2; "
+                + "results = 300:52 5:100; scanned = 2");
         Run.of("the first ones", file(BASE), "load = 0; search 10 0 0 0 8 = 1; results = 300:74; scanned = 1");
     }
 
     /** "PROBES, REFINE, samples and results stay too.": samples and results */
     private static void samplesAndResultsStay() {
-        Run.of("samples and results", "sample 2 0 0 0; sample 4 0 0 0; train 1 2 1 1; add 8 5 0 0 0; add 9 6 0 0 0; search 3 0 0 0 2 = 2",
-                file(zeros(2, 1, 1, 0)), "load = 0; results = 8:4 9:9; scanned = 2; train 1 2 1 1 = 0; centres = 3,0,0,0; results = 8:4 9:9");
-        Run.of("refused", "sample 2 0 0 0; sample 4 0 0 0; train 1 2 1 1; add 8 5 0 0 0; search 3 0 0 0 2 = 1; load = 1; results = 8:4; scanned = 1");
+        Run.of("samples and results", "sample 2 0 0 0; sample 4 0 0 0; train 1 2 1 1; add 8 5 0 0 0; add 9 6 0 0 0; "
+                + "search 3 0 0 0 2 = 2",
+                file(zeros(2, 1, 1, 0)), "load = 0; results = 8:4 9:9; scanned = 2; train 1 2 1 1 = 0; "
+                        + "centres = 3,0,0,0; results = 8:4 9:9");
+        Run.of("refused", "sample 2 0 0 0; sample 4 0 0 0; train 1 2 1 1; add 8 5 0 0 0; search 3 0 0 0 2 = 1; "
+                + "load = 1; results = 8:4; scanned = 1");
     }
 
     /** "1 the file has fewer than 11 bytes" */
@@ -271,7 +289,8 @@ final class EdgesOfLoadTest {
         for (int kind = 0; kind <= 2; kind++) {
             for (int size = 1; size <= 4; size++) {
                 int[] bytes = zeros(kind, size, 5 - size, 3);
-                Run.of("length", file(bytes), "load = 0; alter " + (bytes.length + 1) + " 0; load = 6; cut " + bytes.length + "; load = 6",
+                Run.of("length", file(bytes), "load = 0; alter " + (bytes.length + 1) + " 0; load = 6; "
+                        + "cut " + bytes.length + "; load = 6",
                         "entries 0 = 3; entries " + size + " = -1");
             }
         }

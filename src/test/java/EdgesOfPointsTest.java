@@ -78,7 +78,10 @@ final class EdgesOfPointsTest {
         }
     }
 
-    /** "The DISTANCE of two points, or of the same part of two points, is the sum of the squares of the differences of their coordinates." */
+    /**
+     * "The DISTANCE of two points, or of the same part of two points, is the sum of the squares of the differences of
+     * their coordinates."
+     */
     private static void greatestDistances() {
         Run.of("two corners", "sample 0 0 0 0; train 1 2 1 0; add 7 100 -100 100 -100",
                 "search -100 100 -100 100 1 = 1; results = 7:160000");
@@ -195,10 +198,14 @@ final class EdgesOfPointsTest {
                 }
             }
         }
-        Run.of("all of a turn", "turn 1 1 1 1 = false; turn 1 -1 1 -1 = false; turn 2 2 3 3 = false; turn 0 0 0 0 = false");
+        Run.of("all of a turn", "turn 1 1 1 1 = false; turn 1 -1 1 -1 = false; turn 2 2 3 3 = false; "
+                + "turn 0 0 0 0 = false");
     }
 
-    /** "Coordinate k of a TURNED point is coordinate |tk| - 1 of the point (counted from 0), negated when tk is negative." */
+    /**
+     * "Coordinate k of a TURNED point is coordinate |tk| - 1 of the point (counted from 0), negated when tk is
+     * negative."
+     */
     private static void turnedPoint() {
         Run.of("turned about", "turn 4 3 2 1; sample 10 20 30 40; train 1 2 1 0; centres = 40,30,20,10");
         Run.of("turned round", "turn 2 3 4 1; sample 10 20 30 40; train 1 2 1 0; centres = 20,30,40,10");
@@ -208,11 +215,16 @@ final class EdgesOfPointsTest {
                 "search 10 20 30 41 1 = 1; results = 1:5");
     }
 
-    /** "wherever below a sample, the point of an entry or the point of a search is spoken of, it is turned by the turn of that time." */
+    /**
+     * "wherever below a sample, the point of an entry or the point of a search is spoken of, it is turned by the turn
+     * of that time."
+     */
     private static void turnOfThatTime() {
         Run.of("turn after the sample", "sample 1 2 3 4; turn 4 3 2 1; train 1 2 1 0; centres = 4,3,2,1");
-        Run.of("the latest of two turns", "turn 2 1 3 4; sample 1 2 3 4; turn -1 2 3 4; train 1 2 1 0; centres = -1,2,3,4");
-        Run.of("back to the first turn", "turn 2 1 3 4; sample 1 2 3 4; turn 1 2 3 4; train 1 2 1 0; centres = 1,2,3,4");
+        Run.of("the latest of two turns", "turn 2 1 3 4; sample 1 2 3 4; turn -1 2 3 4; train 1 2 1 0; "
+                + "centres = -1,2,3,4");
+        Run.of("back to the first turn", "turn 2 1 3 4; sample 1 2 3 4; turn 1 2 3 4; train 1 2 1 0; "
+                + "centres = 1,2,3,4");
         String lists = "1 44 1 44 1 44 1 44 1 64 1 44 1 44 1 44 ";
         Run.of("turn of a file", "sample 1 2 3 4; turn 4 3 2 1; train 1 2 1 0; centres = 4,3,2,1",
                 "file 86 1 2 2 1 1 7 6 3 0 " + lists + "0 7 100 100 120 100 check; load = 0",

@@ -15,6 +15,7 @@ final class EdgesOfSearchTest {
         emptyListsAreLookedThrough();
         noEntries();
         equalCodeDistancesById();
+        atTheCentreOfTheEntrysList();
         flatDistances();
         kInRange();
         firstKOfTheEntries();
@@ -24,7 +25,8 @@ final class EdgesOfSearchTest {
         equalDistancesById();
         takenByCodeBeforeDistance();
         notTrained();
-        resultsThatAreThere();
+        idsOfResults();
+        distancesOfResults();
         resultsBeforeAndWithout();
         farByTheRefineOfThatSearch();
         resultsStay();
@@ -34,7 +36,10 @@ final class EdgesOfSearchTest {
         Check.end();
     }
 
-    /** Twenty entries whose code distances are all 0 and whose distances from 0 fall from 361 to 0 as their ids grow from 1. */
+    /**
+     * Twenty entries whose code distances are all 0 and whose distances from 0 fall from 361 to 0 as their ids grow
+     * from 1.
+     */
     private static Run twentyEqual(String name) {
         Run run = new Run(name).go("sample 0 0 0 0; train 1 1 1 0");
         for (int id = 20; id >= 1; id--) {
@@ -61,7 +66,8 @@ final class EdgesOfSearchTest {
             }
         }
         for (String v : FAR) {
-            Run.of("far effort", "effort " + v + " 0 = false; effort 1 " + v + " = false; effort " + v + " " + v + " = false");
+            Run.of("far effort", "effort " + v + " 0 = false; effort 1 " + v + " = false; "
+                    + "effort " + v + " " + v + " = false");
         }
     }
 
@@ -73,7 +79,8 @@ final class EdgesOfSearchTest {
 
     /** "PROBES and REFINE become these: true.": also before a training, which leaves them. */
     private static void effortBeforeTraining() {
-        Run.of("effort before", "effort 2 1 = true", FOUR_LISTS, "search 15 0 0 0 8 = 2; scanned = 2; remove 50; remove 51",
+        Run.of("effort before", "effort 2 1 = true", FOUR_LISTS, "search 15 0 0 0 8 = 2; scanned = 2; remove 50; "
+                + "remove 51",
                 "remove 52; remove 53; train 4 1 1 0 = 0; add 9 8 0 0 0 = 2; add 8 22 0 0 0 = 3",
                 "search 15 0 0 0 8 = 2; results = 8:49 9:49");
     }
@@ -96,7 +103,8 @@ final class EdgesOfSearchTest {
     /** "as many of them as PROBES says, from the first on" */
     private static void asManyListsAsProbes() {
         for (int probes = 1; probes <= 4; probes++) {
-            Run.of(probes + " probes", FOUR_LISTS, "effort " + probes + " 0; search -100 0 0 0 8 = " + probes + "; scanned = " + probes,
+            Run.of(probes + " probes", FOUR_LISTS, "effort " + probes + " 0; search -100 0 0 0 8 = " + probes + "; "
+                    + "scanned = " + probes,
                     "search 100 0 0 0 8 = " + probes + "; hit 0 = 51");
         }
     }
@@ -119,17 +127,32 @@ final class EdgesOfSearchTest {
 
     private static void noEntries() {
         for (int kind = 0; kind <= 2; kind++) {
-            Run.of("no entries", Run.line(0, 30), "train 2 " + kind + " 2 1; search 0 0 0 0 1 = 0; search 0 0 0 0 8 = 0; scanned = 0",
+            Run.of("no entries", Run.line(0, 30), "train 2 " + kind + " 2 1; search 0 0 0 0 1 = 0; "
+                    + "search 0 0 0 0 8 = 0; scanned = 0",
                     "effort 4 3; search 0 0 0 0 8 = 0; hit 0 = -1; far 0 = -1; scanned = 0");
         }
     }
 
     /** "in the order of their code distance, equal ones by id" */
     private static void equalCodeDistancesById() {
-        Run.of("equal code distances", Run.line(0, 10), "train 2 2 1 0; effort 2 0; add 9 4 0 0 0; add 0 6 0 0 0; add 999 5 1 0 0",
+        Run.of("equal code distances", Run.line(0, 10), "train 2 2 1 0; effort 2 0; add 9 4 0 0 0; add 0 6 0 0 0; "
+                + "add 999 5 1 0 0",
                 "add 5 5 -1 0 0; add 4 7 0 0 0; search 5 0 0 0 8 = 5; results = 0:1 5:1 9:1 999:1 4:4",
                 "search 5 0 0 0 3 = 3; results = 0:1 5:1 9:1; remove 5; search 5 0 0 0 3 = 3; results = 0:1 9:1 999:1");
         twentyEqual("equal codes").go("search 0 0 0 0 8 = 8; results = 1:0 2:0 3:0 4:0 5:0 6:0 7:0 8:0");
+    }
+
+    /**
+     * "the distance between that part of what is left of q at the centre of the entry's list and the word of the
+     * entry's code"
+     */
+    private static void atTheCentreOfTheEntrysList() {
+        // one word 0: what is left of 2 is 2 at the centre 0 of entry 1, and -8 at the centre 10 of entry 2
+        for (int kind = 0; kind <= 1; kind++) {
+            Run.of("two lists", Run.line(0, 10), "train 2 " + kind + " 1 0; effort 2 0; add 1 1 0 0 0 = 0; "
+                    + "add 2 9 0 0 0 = 1",
+                    "search 2 0 0 0 2 = 2; results = 1:4 2:64; search 5 0 0 0 2 = 2; results = 1:25 2:25");
+        }
     }
 
     /** "for FLAT it is the distance between q and the entry's point" */
@@ -153,13 +176,16 @@ final class EdgesOfSearchTest {
     /** "When REFINE is 0, the results are the first k of the entries looked through" */
     private static void firstKOfTheEntries() {
         Run.of("first k", FOUR_LISTS, "effort 4 0; search 0 0 0 0 1 = 1; results = 50:0; scanned = 4",
-                "search 0 0 0 0 3 = 3; results = 50:0 52:100 53:400; search 0 0 0 0 4 = 4; results = 50:0 52:100 53:400 51:900");
+                "search 0 0 0 0 3 = 3; results = 50:0 52:100 53:400; search 0 0 0 0 4 = 4; "
+                        + "results = 50:0 52:100 53:400 51:900");
     }
 
     /** "(All, when there are not so many.)": k */
     private static void fewerEntriesThanK() {
-        Run.of("fewer than k", FOUR_LISTS, "effort 4 0; search 0 0 0 0 5 = 4; search 0 0 0 0 8 = 4; hit 3 = 51; hit 4 = -1",
-                "effort 4 1; search 0 0 0 0 8 = 4; hit 3 = 51; hit 4 = -1; effort 1 0; search 0 0 0 0 2 = 1; results = 50:0");
+        Run.of("fewer than k", FOUR_LISTS, "effort 4 0; search 0 0 0 0 5 = 4; search 0 0 0 0 8 = 4; hit 3 = 51; "
+                + "hit 4 = -1",
+                "effort 4 1; search 0 0 0 0 8 = 4; hit 3 = 51; hit 4 = -1; effort 1 0; search 0 0 0 0 2 = 1; "
+                        + "results = 50:0");
     }
 
     /** "When REFINE is f > 0, the first k * f in that order are taken" */
@@ -182,11 +208,14 @@ final class EdgesOfSearchTest {
 
     /** "put in the order of the distance between q and their points, equal ones by id" */
     private static void equalDistancesById() {
-        Run.of("equal distances", "sample 0 0 0 0; train 1 1 1 0; effort 1 3; add 9 0 0 0 5; add 3 3 4 0 0; add 6 -5 0 0 0",
-                "add 4 0 0 1 0; search 0 0 0 0 8 = 4; results = 4:1 3:25 6:25 9:25; search 0 0 0 0 2 = 2; results = 4:1 3:25");
+        Run.of("equal distances", "sample 0 0 0 0; train 1 1 1 0; effort 1 3; add 9 0 0 0 5; add 3 3 4 0 0; "
+                + "add 6 -5 0 0 0",
+                "add 4 0 0 1 0; search 0 0 0 0 8 = 4; results = 4:1 3:25 6:25 9:25; search 0 0 0 0 2 = 2; "
+                        + "results = 4:1 3:25");
         // the code distances put 9 (word 0) before 3 (word 10), the distances are equal
         Run.of("another order before", Run.line(0, 10), "train 1 1 2 0; effort 1 1; add 9 0 0 0 6; add 3 6 0 0 0",
-                "effort 1 0; search 0 0 0 0 2 = 2; results = 9:0 3:100; effort 1 1; search 0 0 0 0 2 = 2; results = 3:36 9:36");
+                "effort 1 0; search 0 0 0 0 2 = 2; results = 9:0 3:100; effort 1 1; search 0 0 0 0 2 = 2; "
+                        + "results = 3:36 9:36");
     }
 
     /** "the first k * f in that order are taken": an entry that is nearer, but not among them, is no result. */
@@ -197,57 +226,77 @@ final class EdgesOfSearchTest {
 
     /** "-1 when not trained" */
     private static void notTrained() {
-        Run.of("not trained", "search 0 0 0 0 1 = -1; sample 0 0 0 0; search 0 0 0 0 1 = -1; train 1 2 1 0; search 0 0 0 0 1 = 0");
-        Run.of("loaded", "file 86 1 2 1 1 0 5 6 7 8 1 44 1 44 1 44 1 44 check; search 0 0 0 0 1 = -1; load; search 0 0 0 0 1 = 0");
+        Run.of("not trained", "search 0 0 0 0 1 = -1; sample 0 0 0 0; search 0 0 0 0 1 = -1; train 1 2 1 0; "
+                + "search 0 0 0 0 1 = 0");
+        Run.of("loaded", "file 86 1 2 1 1 0 5 6 7 8 1 44 1 44 1 44 1 44 check; search 0 0 0 0 1 = -1; load; "
+                + "search 0 0 0 0 1 = 0");
     }
 
     /** "The id of result r of the latest search, counted from 0; NONE when there is no such result." */
-    private static void resultsThatAreThere() {
-        Run run = twentyEqual("results").go("effort 1 3; search 0 0 0 0 8 = 8");
-        run.go("hit 0 = 20; far 0 = 0; hit 7 = 13; far 7 = 49; hit 8 = -1; far 8 = -1; hit 9 = -1; far 9 = -1; hit -1 = -1; far -1 = -1");
-        run.go("hit 19 = -1; far 19 = -1; hit 20 = -1; far 20 = -1; hit 24 = -1; far 24 = -1");
+    private static void idsOfResults() {
+        Run run = twentyEqual("ids of results").go("effort 1 3; search 0 0 0 0 8 = 8; hit 0 = 20; hit 7 = 13");
+        run.go("hit 8 = -1; hit 9 = -1; hit -1 = -1; hit 19 = -1; hit 20 = -1; hit 24 = -1");
         for (String r : FAR) {
-            run.go("hit " + r + " = -1; far " + r + " = -1");
+            run.go("hit " + r + " = -1");
         }
-        run.go("search 0 0 0 0 1 = 1; hit 0 = 3; hit 1 = -1; far 0 = 289; far 1 = -1");
+        run.go("search 0 0 0 0 1 = 1; hit 0 = 3; hit 1 = -1; hit -1 = -1");
+    }
+
+    /** "NONE when there is no such result": far */
+    private static void distancesOfResults() {
+        Run run = twentyEqual("distances of results").go("effort 1 3; search 0 0 0 0 8 = 8; far 0 = 0; far 7 = 49");
+        run.go("far 8 = -1; far 9 = -1; far -1 = -1; far 19 = -1; far 20 = -1; far 24 = -1");
+        for (String r : FAR) {
+            run.go("far " + r + " = -1");
+        }
+        run.go("search 0 0 0 0 1 = 1; far 0 = 289; far 1 = -1; far -1 = -1");
     }
 
     private static void resultsBeforeAndWithout() {
-        Run.of("before a search", "hit 0 = -1; far 0 = -1", FOUR_LISTS, "hit 0 = -1; far 0 = -1; search 0 0 0 0 0 = -3; hit 0 = -1");
-        Run.of("id 0 and distance 0", "sample 0 0 0 0; train 1 2 1 0; add 0 0 0 0 0; search 0 0 0 0 1 = 1; hit 0 = 0; far 0 = 0; hit 1 = -1");
+        Run.of("before a search", "hit 0 = -1; far 0 = -1", FOUR_LISTS, "hit 0 = -1; far 0 = -1; "
+                + "search 0 0 0 0 0 = -3; hit 0 = -1");
+        Run.of("id 0 and distance 0", "sample 0 0 0 0; train 1 2 1 0; add 0 0 0 0 0; search 0 0 0 0 1 = 1; hit 0 = 0; "
+                + "far 0 = 0; hit 1 = -1");
     }
 
     /** "its code distance when REFINE was 0 in that search, otherwise the distance of its point" */
     private static void farByTheRefineOfThatSearch() {
-        twentyEqual("far").go("search 0 0 0 0 1 = 1; effort 1 1; hit 0 = 1; far 0 = 0; search 0 0 0 0 1 = 1; effort 1 0; hit 0 = 1",
+        twentyEqual("far").go("search 0 0 0 0 1 = 1; effort 1 1; hit 0 = 1; far 0 = 0; search 0 0 0 0 1 = 1; "
+                + "effort 1 0; hit 0 = 1",
                 "far 0 = 361; search 0 0 0 0 1 = 1; far 0 = 0");
     }
 
     /** "Results stay as they are until the next search that is not refused." */
     private static void resultsStay() {
-        String same = "results = 52:25 53:25; scanned = 2; ";
-        Run.of("results stay", FOUR_LISTS, "effort 2 0; search 15 0 0 0 8 = 2; " + same + "remove 52; " + same,
-                "add 52 15 0 0 0; " + same + "effort 4 3; " + same + "sample 1 1 1 1; " + same + "save; " + same + "alter 0 86; " + same,
-                "load = 0; " + same + "cut 3; load = 1; " + same + "remove 50; remove 51; remove 52; remove 53; " + same,
-                "train 1 1 1 0; " + same + "search 101 0 0 0 1 = -2; " + same + "search 0 0 0 0 0 = -3; " + same
-                        + "search 0 0 0 0 9 = -3; " + same + "turn 2 1 3 4 = false; " + same + "search 0 0 0 0 1 = 0; results =; scanned = 0");
+        String[] calls = {"effort 2 0; search 15 0 0 0 8 = 2", "remove 52", "add 52 15 0 0 0", "effort 4 3",
+            "sample 1 1 1 1", "save", "alter 0 86", "load = 0", "cut 3", "load = 1",
+            "remove 50; remove 51; remove 52; remove 53", "train 1 1 1 0", "search 101 0 0 0 1 = -2",
+            "search 0 0 0 0 0 = -3", "search 0 0 0 0 9 = -3", "turn 2 1 3 4 = false"};
+        Run run = new Run("results stay").go(FOUR_LISTS);
+        for (String call : calls) {
+            run.go(call, "results = 52:25 53:25; scanned = 2");
+        }
+        run.go("search 0 0 0 0 1 = 0; results =; scanned = 0");
     }
 
     /** "of the latest search": none is left of the results of the one before it. */
     private static void fewerResultsThanBefore() {
-        twentyEqual("fewer results").go("search 0 0 0 0 8 = 8; search 0 0 0 0 3 = 3; hit 2 = 3; hit 3 = -1; far 3 = -1; hit 7 = -1");
+        twentyEqual("fewer results").go("search 0 0 0 0 8 = 8; search 0 0 0 0 3 = 3; hit 2 = 3; hit 3 = -1; "
+                + "far 3 = -1; hit 7 = -1");
     }
 
     /** "0 before the first search" */
     private static void scannedBeforeTheFirstSearch() {
-        Run.of("scanned", "scanned = 0; search 0 0 0 0 1 = -1; scanned = 0", FOUR_LISTS, "scanned = 0; search 101 0 0 0 1 = -2; scanned = 0",
+        Run.of("scanned", "scanned = 0; search 0 0 0 0 1 = -1; scanned = 0", FOUR_LISTS, "scanned = 0; "
+                + "search 101 0 0 0 1 = -2; scanned = 0",
                 "search 0 0 0 0 9 = -3; scanned = 0; search 0 0 0 0 1 = 1; scanned = 1");
     }
 
     /** "How many entries the latest search looked through" */
     private static void scannedCountsEntriesLookedThrough() {
         twentyEqual("scanned").go("search 0 0 0 0 1 = 1; scanned = 20; effort 1 1; search 0 0 0 0 1 = 1; scanned = 20",
-                "effort 1 3; search 0 0 0 0 2 = 2; scanned = 20; search 0 0 0 0 9 = -3; scanned = 20; remove 1; scanned = 20",
+                "effort 1 3; search 0 0 0 0 2 = 2; scanned = 20; search 0 0 0 0 9 = -3; scanned = 20; remove 1; "
+                        + "scanned = 20",
                 "search 0 0 0 0 2 = 2; scanned = 19");
     }
 }

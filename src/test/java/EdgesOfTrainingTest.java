@@ -45,7 +45,8 @@ final class EdgesOfTrainingTest {
     /** "there are 24 samples": also when the index is trained or loaded. */
     private static void fullWhenTrainedAndLoaded() {
         String file = "file 86 1 2 1 1 0 5 6 7 8 1 44 1 44 1 44 1 44 check";
-        Run run = new Run("full").go(Run.line(new int[23]), "train 1 2 1 1; sample 24 0 0 0 = true; sample 0 0 0 0 = false");
+        Run run = new Run("full").go(Run.line(new int[23]), "train 1 2 1 1; sample 24 0 0 0 = true; "
+                + "sample 0 0 0 0 = false");
         run.go(file, "load; sample 0 0 0 0 = false; train 1 2 1 1; centres = 1,0,0,0; sample 0 0 0 0 = false");
     }
 
@@ -61,7 +62,9 @@ final class EdgesOfTrainingTest {
                 "centres = 1,0,0,0; train 1 2 1 1 = 0; centres = 3,0,0,0");
     }
 
-    /** "TRAINING clusters all samples, in the order in which they were given, to the centres of the LISTS 0, 1, .. ." */
+    /**
+     * "TRAINING clusters all samples, in the order in which they were given, to the centres of the LISTS 0, 1, .. ."
+     */
     private static void allSamplesInTheirOrder() {
         Run.of("order", Run.line(5, -9, 8), "train 3 2 1 0; centres = 5,0,0,0 -9,0,0,0 8,0,0,0");
         Run.of("another order", Run.line(8, 5, -9), "train 3 2 1 0; centres = 8,0,0,0 -9,0,0,0 5,0,0,0");
@@ -93,7 +96,8 @@ final class EdgesOfTrainingTest {
         Run.of("4 codes", Run.line(0, 10), "train 1 1 4 0 = 0; words = 0 3 6 10 / 0 0 0 0 / 0 0 0 0 / 0 0 0 0");
         Run.of("3 codes below 0", Run.line(0, -9), "train 1 1 3 0; words = -9 -5 0 / 0 0 0 / 0 0 0 / 0 0 0");
         Run.of("4 codes below 0", Run.line(0, -10), "train 1 1 4 0; words = -10 -7 -4 0 / 0 0 0 0 / 0 0 0 0 / 0 0 0 0");
-        Run.of("low and high are one", "sample 4 5 6 7; train 1 1 4 0 = 0; words = 0 0 0 0 / 0 0 0 0 / 0 0 0 0 / 0 0 0 0");
+        Run.of("low and high are one", "sample 4 5 6 7; train 1 1 4 0 = 0; "
+                + "words = 0 0 0 0 / 0 0 0 0 / 0 0 0 0 / 0 0 0 0");
         Run.of("low in the middle", Run.line(5, 8, 1, 9, 4), "train 1 1 2 0; words = -4 4 / 0 0 / 0 0 / 0 0");
     }
 
@@ -102,7 +106,8 @@ final class EdgesOfTrainingTest {
         Run.of("corners", SCALAR_CORNERS, "train 1 1 4 0 = 0",
                 "words = 0 66 133 200 / -200 -134 -67 0 / 0 66 133 200 / 0 0 0 0",
                 "save = 51; load = 0; words = 0 66 133 200 / -200 -134 -67 0 / 0 66 133 200 / 0 0 0 0");
-        Run.of("the last of 24 samples", Run.line(new int[23]), Run.line(7), "train 1 1 2 0; words = 0 7 / 0 0 / 0 0 / 0 0");
+        Run.of("the last of 24 samples", Run.line(new int[23]), Run.line(7), "train 1 1 2 0; "
+                + "words = 0 7 / 0 0 / 0 0 / 0 0");
         Run.of("the last of 24 samples, below", Run.line(new int[23]), Run.line(-7),
                 "train 1 1 2 0; words = -7 0 / 0 0 / 0 0 / 0 0");
     }
@@ -111,7 +116,8 @@ final class EdgesOfTrainingTest {
     private static void oneCode() {
         Run.of("one code", Run.line(0, -10, 10), "train 1 1 1 0 = 500; words = -10 / 0 / 0 / 0");
         Run.of("one code over 0", Run.line(0, 10), "train 1 1 1 0 = 100; words = 0 / 0 / 0 / 0");
-        Run.of("one code after a round", Run.line(0, -10), "train 1 1 1 1 = 100; centres = -5,0,0,0; words = -5 / 0 / 0 / 0");
+        Run.of("one code after a round", Run.line(0, -10), "train 1 1 1 1 = 100; centres = -5,0,0,0; "
+                + "words = -5 / 0 / 0 / 0");
     }
 
     /** "Kind 2, FLAT: no parts and no words." */
@@ -135,11 +141,15 @@ final class EdgesOfTrainingTest {
     /** "what an earlier training or load gave is replaced": a load */
     private static void earlierLoadIsReplaced() {
         Run.of("after a load", "sample 0 0 0 0; sample 4 0 6 1",
-                "file 86 1 1 2 2 0 5 6 7 8 " + "1 60 ".repeat(16) + "check; load = 0; centres = 16,16,16,16 16,16,16,16",
+                "file 86 1 1 2 2 0 5 6 7 8 " + "1 60 ".repeat(16) + "check; load = 0; "
+                        + "centres = 16,16,16,16 16,16,16,16",
                 "train 1 0 1 0 = 53; centres = 0,0,0,0; words = 0,0 / 0,0; entries 1 = -1");
     }
 
-    /** "the sum, over all samples and for each over all parts, of the distance between that part of what is left of the sample and the word nearest to it (0 for FLAT)" */
+    /**
+     * "the sum, over all samples and for each over all parts, of the distance between that part of what is left of the
+     * sample and the word nearest to it (0 for FLAT)"
+     */
     private static void sumOverSamplesAndParts() {
         String corners = "sample -100 -100 -100 -100; " + "sample 100 100 100 100; ".repeat(23);
         Run.of("greatest sum of a product", corners, "train 1 0 1 0 = 3680000");
@@ -153,12 +163,14 @@ final class EdgesOfTrainingTest {
     private static void noSample() {
         Run.of("no sample", "train 1 0 1 0 = -1; train 4 2 4 8 = -1; sample 101 0 0 0 = false; train 1 0 1 0 = -1",
                 "centre 0 0 = -1000; save = -1; sample 100 0 0 0 = true; train 1 0 1 0 = 0");
-        Run.of("no sample, but loaded", "file 86 1 2 1 1 0 5 6 7 8 1 44 1 44 1 44 1 44 check; load = 0; train 1 0 1 0 = -1");
+        Run.of("no sample, but loaded", "file 86 1 2 1 1 0 5 6 7 8 1 44 1 44 1 44 1 44 check; load = 0; "
+                + "train 1 0 1 0 = -1");
     }
 
     /** "-2 when there are entries" */
     private static void entriesAreThere() {
-        Run.of("one entry", "sample 0 0 0 0; train 1 2 1 0; add 999 1 1 1 1; train 1 0 1 0 = -2; remove 999; train 1 0 1 0 = 0");
+        Run.of("one entry", "sample 0 0 0 0; train 1 2 1 0; add 999 1 1 1 1; train 1 0 1 0 = -2; remove 999; "
+                + "train 1 0 1 0 = 0");
         Run run = new Run("20 entries").go("sample 0 0 0 0; train 1 2 1 0");
         for (int id = 0; id < 20; id++) {
             run.go("add " + id + " 0 0 0 0");
@@ -226,7 +238,8 @@ final class EdgesOfTrainingTest {
 
     /** "ABSENT when not trained, or there is no such list or coordinate": of a centre */
     private static void centresThatAreNotThere() {
-        Run run = new Run("centres").go("centre 0 0 = -1000; sample 1 2 3 4; centre 0 0 = -1000; load = 1; centre 0 0 = -1000");
+        Run run = new Run("centres").go("centre 0 0 = -1000; sample 1 2 3 4; centre 0 0 = -1000; load = 1; "
+                + "centre 0 0 = -1000");
         run.go("train 5 2 1 0 = -3; centre 0 0 = -1000; train 1 2 1 0; centre 0 0 = 1");
         for (String v : FAR) {
             run.go("centre " + v + " 0 = -1000; centre 0 " + v + " = -1000; centre " + v + " " + v + " = -1000");
@@ -249,23 +262,28 @@ final class EdgesOfTrainingTest {
         }
     }
 
-    /** "A coordinate of a word of a part, counted from 0 within the part (0 or 1 for PRODUCT, 0 for SCALAR)": PRODUCT */
+    /**
+     * "A coordinate of a word of a part, counted from 0 within the part (0 or 1 for PRODUCT, 0 for SCALAR)": PRODUCT
+     */
     private static void wordsOfProduct() {
         hasWords(0, 2, 2);
         Run.of("within the part", "sample 0 0 0 0; sample 1 2 3 4; train 1 0 2 0",
-                "word 0 1 0 = 1; word 0 1 1 = 2; word 1 1 0 = 3; word 1 1 1 = 4; word 1 1 2 = -1000; word 1 1 3 = -1000");
+                "word 0 1 0 = 1; word 0 1 1 = 2; word 1 1 0 = 3; word 1 1 1 = 4; word 1 1 2 = -1000; "
+                        + "word 1 1 3 = -1000");
     }
 
     /** "A coordinate of a word of a part, counted from 0 within the part (0 or 1 for PRODUCT, 0 for SCALAR)": SCALAR */
     private static void wordsOfScalar() {
         hasWords(1, 4, 1);
         Run.of("within the part", "sample 0 0 0 0; sample 1 2 3 4; train 1 1 2 0",
-                "word 0 1 0 = 1; word 1 1 0 = 2; word 2 1 0 = 3; word 3 1 0 = 4; word 3 1 3 = -1000; word 4 1 0 = -1000");
+                "word 0 1 0 = 1; word 1 1 0 = 2; word 2 1 0 = 3; word 3 1 0 = 4; word 3 1 3 = -1000; "
+                        + "word 4 1 0 = -1000");
     }
 
     /** "ABSENT when not trained, or there is no such part, word or coordinate": of a word */
     private static void wordsWhenNotTrained() {
-        Run.of("words", "word 0 0 0 = -1000; sample 1 2 3 4; word 0 0 0 = -1000; train 1 1 0 0 = -3; word 0 0 0 = -1000",
+        Run.of("words", "word 0 0 0 = -1000; sample 1 2 3 4; word 0 0 0 = -1000; train 1 1 0 0 = -3; "
+                + "word 0 0 0 = -1000",
                 "train 1 1 1 0; word 0 0 0 = 0");
     }
 }

@@ -29,27 +29,33 @@ final class OrderOfReasonsTest {
     /** "-1 when there is no sample; -2 when there are entries; -3 when lists is not 1 .. 4" and so on */
     private static void train() {
         String loaded = "file " + ONE_LIST + "1 " + CENTRE + "0 7 100 100 100 100 check; load = 0; ";
-        Run.of("no sample, wrong numbers", "train 0 0 1 0 = -1; train 1 3 1 0 = -1; train 1 0 0 0 = -1; train 1 0 1 9 = -1");
+        Run.of("no sample, wrong numbers", "train 0 0 1 0 = -1; train 1 3 1 0 = -1; train 1 0 0 0 = -1; "
+                + "train 1 0 1 9 = -1");
         Run.of("no sample, entries", loaded + "train 1 0 1 0 = -1");
         Run.of("no sample, entries, wrong numbers", loaded + "train 5 -1 5 -1 = -1");
-        Run.of("entries, wrong numbers", loaded + "sample 0 0 0 0; train 0 0 1 0 = -2; train 5 0 1 0 = -2; train 1 -1 1 0 = -2",
-                "train 1 3 1 0 = -2; train 1 0 0 0 = -2; train 1 0 5 0 = -2; train 1 0 1 -1 = -2; train 1 0 1 9 = -2; remove 7",
+        Run.of("entries, wrong numbers", loaded + "sample 0 0 0 0; train 0 0 1 0 = -2; train 5 0 1 0 = -2; "
+                + "train 1 -1 1 0 = -2",
+                "train 1 3 1 0 = -2; train 1 0 0 0 = -2; train 1 0 5 0 = -2; train 1 0 1 -1 = -2; train 1 0 1 9 = -2; "
+                        + "remove 7",
                 "train 0 0 1 0 = -3; train 1 0 1 9 = -3; train 1 0 1 0 = 0");
     }
 
     /** "-1 when not trained" before "-2 when id is not 0 .. 999" and "-3 when the point is BAD" */
     private static void addWhenNotTrained() {
-        Run.of("not trained", "sample 0 0 0 0; add -1 0 0 0 0 = -1; add 1000 0 0 0 0 = -1; add 1 101 0 0 0 = -1; add -1 0 0 0 101 = -1");
+        Run.of("not trained", "sample 0 0 0 0; add -1 0 0 0 0 = -1; add 1000 0 0 0 0 = -1; add 1 101 0 0 0 = -1; "
+                + "add -1 0 0 0 101 = -1");
     }
 
     /** "-2 when id is not 0 .. 999" before "-3 when the point is BAD" */
     private static void addWrongIds() {
-        Run.of("wrong id and bad point", "sample 0 0 0 0; train 1 2 1 0; add -1 101 0 0 0 = -2; add 1000 0 0 0 -101 = -2; add 999 101 0 0 0 = -3");
+        Run.of("wrong id and bad point", "sample 0 0 0 0; train 1 2 1 0; add -1 101 0 0 0 = -2; "
+                + "add 1000 0 0 0 -101 = -2; add 999 101 0 0 0 = -3");
     }
 
     /** "-3 when the point is BAD" before "-4 when there is an entry with that id" */
     private static void addBadPoints() {
-        Run.of("bad point of an id that is there", "sample 0 0 0 0; train 1 2 1 0; add 5 0 0 0 0; add 5 101 0 0 0 = -3; add 5 0 0 0 -101 = -3",
+        Run.of("bad point of an id that is there", "sample 0 0 0 0; train 1 2 1 0; add 5 0 0 0 0; "
+                + "add 5 101 0 0 0 = -3; add 5 0 0 0 -101 = -3",
                 "add 5 100 0 0 0 = -4");
     }
 
@@ -59,14 +65,17 @@ final class OrderOfReasonsTest {
         for (int id = 0; id < 20; id++) {
             run.go("add " + id + " 0 0 0 0");
         }
-        run.go("add -1 0 0 0 0 = -2; add 1000 0 0 0 0 = -2; add -1 101 0 0 0 = -2; add 20 101 0 0 0 = -3; add 19 101 0 0 0 = -3");
+        run.go("add -1 0 0 0 0 = -2; add 1000 0 0 0 0 = -2; add -1 101 0 0 0 = -2; add 20 101 0 0 0 = -3; "
+                + "add 19 101 0 0 0 = -3");
         run.go("add 19 0 0 0 0 = -4; add 0 0 0 0 0 = -4; add 20 0 0 0 0 = -5");
     }
 
     /** "-1 when not trained; -2 when the point is BAD; -3 when k is not 1 .. 8" */
     private static void search() {
-        Run.of("not trained", "search 101 0 0 0 1 = -1; search 0 0 0 0 0 = -1; search 0 0 0 0 9 = -1; search 101 0 0 0 9 = -1");
-        Run.of("bad point and wrong k", "sample 0 0 0 0; train 1 2 1 0; search 101 0 0 0 0 = -2; search 0 0 0 -101 9 = -2",
+        Run.of("not trained", "search 101 0 0 0 1 = -1; search 0 0 0 0 0 = -1; search 0 0 0 0 9 = -1; "
+                + "search 101 0 0 0 9 = -1");
+        Run.of("bad point and wrong k", "sample 0 0 0 0; train 1 2 1 0; search 101 0 0 0 0 = -2; "
+                + "search 0 0 0 -101 9 = -2",
                 "search 100 0 0 0 0 = -3; search 0 0 0 -100 9 = -3");
     }
 

@@ -11,7 +11,8 @@ final class RefusedCallsTest {
     private static final String SAMPLED = "turn 2 -1 4 -3; sample 10 20 30 40; sample -7 5 60 0; sample 9 -80 3 3; "
             + "effort 2 1; file 86 1 9";
     private static final String TRAINED = SAMPLED + "; train 2 0 3 2";
-    private static final String FILLED = SAMPLED + "; train 2 1 3 2; add 500 20 10 7 7; add 3 -50 4 60 1; add 999 0 0 0 0; "
+    private static final String FILLED = SAMPLED + "; train 2 1 3 2; add 500 20 10 7 7; add 3 -50 4 60 1; "
+            + "add 999 0 0 0 0; "
             + "add 256 90 0 -80 2; search 1 2 3 4 3; save; add 0 1 1 1 1; remove 3; effort 3 2; sample 1 2 3 4";
     private static final String FULL = full();
     private static final String FULL_FILE = fullFile();
@@ -28,19 +29,24 @@ final class RefusedCallsTest {
     public static void main(String[] args) {
         changesNothing(NEW, turns(), samples(), removes(), efforts(), files(0), looks(),
                 "train 1 0 1 0 = -1; train 0 9 9 9 = -1; train 4 2 4 8 = -1; add 1 0 0 0 0 = -1; add -1 101 0 0 0 = -1",
-                "search 0 0 0 0 1 = -1; search 101 0 0 0 9 = -1; save = -1; load = 1; hit 0 = -1; far 0 = -1; entries 0 = -1");
+                "search 0 0 0 0 1 = -1; search 101 0 0 0 9 = -1; save = -1; load = 1; hit 0 = -1; far 0 = -1; "
+                        + "entries 0 = -1");
         changesNothing(SAMPLED, turns(), samples(), removes(), efforts(), files(3), looks(), trainings(-3),
-                "add 1 0 0 0 0 = -1; add -1 101 0 0 0 = -1; search 0 0 0 0 1 = -1; search 101 0 0 0 9 = -1; save = -1; load = 1");
-        changesNothing(TRAINED, turns(), turnsOfATrainedIndex(), samples(), removes(), efforts(), files(3), looks(), trainings(-3),
-                entries(), searches(), "load = 1");
-        changesNothing(FILLED, turns(), turnsOfATrainedIndex(), samples(), removes(), efforts(), files(75), looks(), trainings(-2),
-                "train 1 0 1 0 = -2; train 4 1 4 8 = -2; train 2 2 2 2 = -2", entries(), searches(),
+                "add 1 0 0 0 0 = -1; add -1 101 0 0 0 = -1; search 0 0 0 0 1 = -1; search 101 0 0 0 9 = -1; "
+                        + "save = -1; load = 1");
+        changesNothing(TRAINED, turns(), turnsOfATrainedIndex(), samples(), removes(), efforts(), files(3), looks(),
+                trainings(-3), entries(), searches(), "load = 1");
+        changesNothing(FILLED, turns(), turnsOfATrainedIndex(), samples(), removes(), efforts(), files(75), looks(),
+                trainings(-2), "train 1 0 1 0 = -2; train 4 1 4 8 = -2; train 2 2 2 2 = -2", entries(), searches(),
                 "add 500 1 1 1 1 = -4; add 0 50 50 50 50 = -4; add 999 0 0 0 0 = -4; add 256 0 0 0 0 = -4");
         changesNothing(FULL, turnsOfATrainedIndex(), removes(), efforts(), files(195), entries(), searches(),
                 "sample 0 0 0 0 = false; sample 100 -100 50 1 = false; sample 101 0 0 0 = false; train 1 0 1 0 = -2",
-                "add 0 1 1 1 1 = -4; add 19 1 1 1 1 = -4; add 20 1 1 1 1 = -5; add 999 0 0 0 0 = -5; add 501 9 9 9 9 = -5");
-        changesNothing(FULL_FILE, "alter 250 7 = false; alter 251 7 = false; alter -1 7 = false; alter 0 256 = false; alter 249 -1 = false",
-                "alter 250 256 = false; alter greatest 1 = false; alter least 1 = false; cut 251 = false; cut -1 = false; cut greatest = false",
+                "add 0 1 1 1 1 = -4; add 19 1 1 1 1 = -4; add 20 1 1 1 1 = -5; add 999 0 0 0 0 = -5; "
+                        + "add 501 9 9 9 9 = -5");
+        changesNothing(FULL_FILE, "alter 250 7 = false; alter 251 7 = false; alter -1 7 = false; alter 0 256 = false; "
+                + "alter 249 -1 = false",
+                "alter 250 256 = false; alter greatest 1 = false; alter least 1 = false; cut 251 = false; "
+                        + "cut -1 = false; cut greatest = false",
                 "load = 2; save = -1");
         loads();
         Check.end();
@@ -49,11 +55,11 @@ final class RefusedCallsTest {
     private static String full() {
         StringBuilder all = new StringBuilder("turn -3 1 -4 2; effort 3 2; ");
         for (int i = 0; i < 24; i++) {
-            all.append("sample ").append(7 * i - 80).append(" ").append(i * i % 50).append(" ").append(-i).append(" 5; ");
+            all.append(String.format("sample %d %d %d 5; ", 7 * i - 80, i * i % 50, -i));
         }
         all.append("train 4 0 4 3; ");
         for (int id = 0; id < 20; id++) {
-            all.append("add ").append(id).append(" ").append(5 * id - 40).append(" ").append(id * id % 31).append(" 0 -3; ");
+            all.append(String.format("add %d %d %d 0 -3; ", id, 5 * id - 40, id * id % 31));
         }
         return all + "search 5 6 0 0 8; save";
     }
@@ -67,8 +73,10 @@ final class RefusedCallsTest {
     }
 
     private static String turns() {
-        return "turn 0 2 3 4 = false; turn 5 2 3 1 = false; turn -5 2 3 1 = false; turn 1 2 3 0 = false; turn 4 3 2 5 = false; "
-                + "turn 4 3 2 2 = false; turn 4 3 -4 1 = false; turn -2 2 3 4 = false; turn least 3 2 1 = false; turn 4 3 2 greatest = false";
+        return "turn 0 2 3 4 = false; turn 5 2 3 1 = false; turn -5 2 3 1 = false; turn 1 2 3 0 = false; "
+                + "turn 4 3 2 5 = false; "
+                + "turn 4 3 2 2 = false; turn 4 3 -4 1 = false; turn -2 2 3 4 = false; turn least 3 2 1 = false; "
+                + "turn 4 3 2 greatest = false";
     }
 
     private static String turnsOfATrainedIndex() {
@@ -76,8 +84,10 @@ final class RefusedCallsTest {
     }
 
     private static String samples() {
-        return "sample 101 0 0 0 = false; sample -101 0 0 0 = false; sample 0 101 0 0 = false; sample 0 0 -101 0 = false; "
-                + "sample 50 50 50 101 = false; sample least 0 0 0 = false; sample 0 greatest 0 0 = false; sample 9 9 9 least = false";
+        return "sample 101 0 0 0 = false; sample -101 0 0 0 = false; sample 0 101 0 0 = false; "
+                + "sample 0 0 -101 0 = false; "
+                + "sample 50 50 50 101 = false; sample least 0 0 0 = false; sample 0 greatest 0 0 = false; "
+                + "sample 9 9 9 least = false";
     }
 
     private static String removes() {
@@ -87,37 +97,48 @@ final class RefusedCallsTest {
 
     /** One of the two numbers is a good one, which must not be taken. */
     private static String efforts() {
-        return "effort 0 0 = false; effort 0 3 = false; effort 5 0 = false; effort 5 3 = false; effort -1 2 = false; effort 4 4 = false; "
-                + "effort 4 -1 = false; effort 1 4 = false; effort 1 -1 = false; effort 3 5 = false; effort greatest 3 = false; "
+        return "effort 0 0 = false; effort 0 3 = false; effort 5 0 = false; effort 5 3 = false; effort -1 2 = false; "
+                + "effort 4 4 = false; "
+                + "effort 4 -1 = false; effort 1 4 = false; effort 1 -1 = false; effort 3 5 = false; "
+                + "effort greatest 3 = false; "
                 + "effort least 3 = false; effort 4 greatest = false; effort 4 least = false";
     }
 
     private static String files(int length) {
-        return "alter -1 5 = false; alter " + (length + 1) + " 5 = false; alter " + (length + 2) + " 5 = false; alter " + length
-                + " 256 = false; alter " + length + " -1 = false; alter 0 256 = false; alter 0 -1 = false; alter 0 greatest = false; "
+        return "alter -1 5 = false; alter " + (length + 1) + " 5 = false; alter " + (length + 2) + " 5 = false; "
+                + "alter " + length
+                + " 256 = false; alter " + length + " -1 = false; alter 0 256 = false; alter 0 -1 = false; "
+                + "alter 0 greatest = false; "
                 + "alter least 5 = false; alter greatest 5 = false; cut -1 = false; cut " + (length + 1) + " = false; "
                 + "cut least = false; cut greatest = false";
     }
 
     private static String looks() {
-        return "centre -1 0 = -1000; centre 4 0 = -1000; centre 0 4 = -1000; word -1 0 0 = -1000; word 4 0 0 = -1000; word 0 4 0 = -1000; "
-                + "word 0 0 2 = -1000; listOf -1 = -1; listOf 501 = -1; codeOf 1000 = -1; codeOf 501 = -1; entries -1 = -1; entries 4 = -1; "
+        return "centre -1 0 = -1000; centre 4 0 = -1000; centre 0 4 = -1000; word -1 0 0 = -1000; word 4 0 0 = -1000; "
+                + "word 0 4 0 = -1000; "
+                + "word 0 0 2 = -1000; listOf -1 = -1; listOf 501 = -1; codeOf 1000 = -1; codeOf 501 = -1; "
+                + "entries -1 = -1; entries 4 = -1; "
                 + "hit -1 = -1; hit 8 = -1; far -1 = -1; far 8 = -1; byteAt -1 = -1; byteAt 250 = -1";
     }
 
     private static String trainings(int answer) {
-        String all = "train 0 0 1 0; train 5 0 1 0; train 2 -1 1 0; train 2 3 1 0; train 2 0 0 0; train 2 0 5 0; train 2 2 0 0; train 2 2 5 0; "
-                + "train 2 1 2 -1; train 2 1 2 9; train least 0 1 0; train 2 greatest 1 0; train 2 0 least 0; train 2 0 1 greatest";
+        String all = "train 0 0 1 0; train 5 0 1 0; train 2 -1 1 0; train 2 3 1 0; train 2 0 0 0; train 2 0 5 0; "
+                + "train 2 2 0 0; train 2 2 5 0; "
+                + "train 2 1 2 -1; train 2 1 2 9; train least 0 1 0; train 2 greatest 1 0; train 2 0 least 0; "
+                + "train 2 0 1 greatest";
         return all.replace(";", " = " + answer + ";") + " = " + answer;
     }
 
     private static String entries() {
-        return "add -1 1 1 1 1 = -2; add 1000 1 1 1 1 = -2; add least 1 1 1 1 = -2; add greatest 1 1 1 1 = -2; add -1 101 0 0 0 = -2; "
-                + "add 501 101 0 0 0 = -3; add 501 0 -101 0 0 = -3; add 501 0 0 least 0 = -3; add 501 0 0 0 greatest = -3";
+        return "add -1 1 1 1 1 = -2; add 1000 1 1 1 1 = -2; add least 1 1 1 1 = -2; add greatest 1 1 1 1 = -2; "
+                + "add -1 101 0 0 0 = -2; "
+                + "add 501 101 0 0 0 = -3; add 501 0 -101 0 0 = -3; add 501 0 0 least 0 = -3; "
+                + "add 501 0 0 0 greatest = -3";
     }
 
     private static String searches() {
-        return "search 101 0 0 0 1 = -2; search 0 -101 0 0 8 = -2; search 0 0 least 0 3 = -2; search 0 0 0 greatest 3 = -2; "
+        return "search 101 0 0 0 1 = -2; search 0 -101 0 0 8 = -2; search 0 0 least 0 3 = -2; "
+                + "search 0 0 0 greatest 3 = -2; "
                 + "search 101 0 0 0 0 = -2; search 9 9 9 9 0 = -3; search 9 9 9 9 9 = -3; search 9 9 9 9 -1 = -3; "
                 + "search 9 9 9 9 least = -3; search 9 9 9 9 greatest = -3";
     }
@@ -126,11 +147,18 @@ final class RefusedCallsTest {
     private static void loads() {
         String all = HEAD + TURN + WIDES + LAST_WORD + ENTRIES + LAST_BYTE;
         String behindHead = all.substring(HEAD.length()) + "check";
-        String[] files = {HEAD + TURN, "85 1 0 2 1 2 " + behindHead, "86 2 0 2 1 2 " + behindHead, "86 1 3 2 1 2 " + behindHead,
-            HEAD + "1 2 3 7 " + WIDES + LAST_WORD + ENTRIES + LAST_BYTE + "check", all + "0 check", all + "255",
-            HEAD + TURN + WIDES + "2 89 " + ENTRIES + LAST_BYTE + "check", HEAD + TURN + WIDES + LAST_WORD + ENTRIES + "201 check"};
+        String[] files = {HEAD + TURN,
+            "85 1 0 2 1 2 " + behindHead,
+            "86 2 0 2 1 2 " + behindHead,
+            "86 1 3 2 1 2 " + behindHead,
+            HEAD + "1 2 3 7 " + WIDES + LAST_WORD + ENTRIES + LAST_BYTE + "check",
+            all + "0 check",
+            all + "255",
+            HEAD + TURN + WIDES + "2 89 " + ENTRIES + LAST_BYTE + "check",
+            HEAD + TURN + WIDES + LAST_WORD + ENTRIES + "201 check"};
         for (String state : new String[] {NEW, SAMPLED, TRAINED, FILLED, FULL}) {
-            Run.of("the file as it should be", state, "file " + all + "check; load = 0; listOf 3 = 0; listOf 999 = 0; entries 2 = -1");
+            Run.of("the file as it should be", state, "file " + all + "check; load = 0; listOf 3 = 0; listOf 999 = 0; "
+                    + "entries 2 = -1");
             for (int fault = 1; fault <= 9; fault++) {
                 changesNothing(state + "; file " + files[fault - 1], "load = " + fault);
             }
@@ -140,7 +168,8 @@ final class RefusedCallsTest {
     private static void changesNothing(String state, String... refused) {
         for (String calls : refused) {
             for (String call : calls.split(";")) {
-                shown(state, call.strip(), "centres; words; entries 0; entries 1; entries 2; entries 3; " + each("listOf") + each("codeOf"));
+                shown(state, call.strip(), "centres; words; entries 0; entries 1; entries 2; entries 3; "
+                        + each("listOf") + each("codeOf"));
                 shown(state, call.strip(), "results; scanned; bytes");
                 shown(state, call.strip(), "save; bytes");
                 shown(state, call.strip(), whatIsHidden());
@@ -164,12 +193,14 @@ final class RefusedCallsTest {
     /** Calls whose answers show the samples and how many there are, the turn, PROBES and REFINE. */
     private static String whatIsHidden() {
         String searches = "search 5 6 0 0 2; results; scanned; search -40 3 70 8 1; results; scanned; ";
-        String entries = "add 1 30 40 3 -20; add 2 -20 5 60 7; add 3 0 0 0 0; add 4 -60 4 2 9; add 5 33 41 2 -22; add 6 80 -9 0 3; ";
+        String entries = "add 1 30 40 3 -20; add 2 -20 5 60 7; add 3 0 0 0 0; add 4 -60 4 2 9; add 5 33 41 2 -22; "
+                + "add 6 80 -9 0 3; ";
         String removes = "";
         for (int id = 5; id < 19; id++) {
             removes += "remove " + id + "; ";
         }
-        return searches + each("remove") + removes + "train 1 1 4 0; centres; words; " + "sample 40 -30 20 10; ".repeat(24)
+        String samples = "sample 40 -30 20 10; ".repeat(24);
+        return searches + each("remove") + removes + "train 1 1 4 0; centres; words; " + samples
                 + "sample 1 1 1 1; train 4 0 3 1; centres; words; " + entries + searches;
     }
 }

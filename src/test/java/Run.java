@@ -7,7 +7,7 @@ import java.util.StringJoiner;
  * answer must not be refused; "least" and "greatest" stand for the ends of int.
  *
  * Beside the calls there are rows that look at much at once ("centres = 1,2,3,4 5,6,7,8", "words", "results",
- * "bytes") and "file 86 1 .. check", which writes a file; in the bytes of both, "check" is the CHECK of those before it.
+ * "bytes") and "file 86 1 .. check", which writes a file; among bytes, "check" is the CHECK of those before it.
  */
 final class Run {
     /** What the document promises for one object. */
