@@ -94,7 +94,8 @@ final class BeginningTest {
         index.sample(10, 20, 30, 40);
         index.train(1, 2, 1, 0);
         for (int k = 0; k < 4; k++) {
-            Check.due("centre(0, " + k + ") after " + call, index.centre(0, k), different == 4 ? 10 * t[k] : 10 * (k + 1));
+            Check.due("centre(0, " + k + ") after " + call, index.centre(0, k),
+                    different == 4 ? 10 * t[k] : 10 * (k + 1));
         }
     }
 

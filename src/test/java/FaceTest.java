@@ -5,13 +5,19 @@ import java.lang.reflect.Modifier;
 import java.nio.file.Files;
 import java.nio.file.Path;
 import java.util.Arrays;
+import java.util.HashSet;
 import java.util.List;
+import java.util.Map;
 import java.util.Set;
+import java.util.TreeMap;
 import java.util.TreeSet;
+import java.util.regex.MatchResult;
+import java.util.regex.Matcher;
 import java.util.regex.Pattern;
 import java.util.stream.Collectors;
+import java.util.stream.Stream;
 
-/** The public face of the document, and those rules of LANGUAGE.md that can be seen from outside. */
+/** The public face of the document, and those rules of LANGUAGE.md that can be seen in the class and in its text. */
 final class FaceTest {
     private static final Class<?> FACE = QuantisedLists.class;
     private static final Set<String> METHODS = new TreeSet<>(List.of(
@@ -26,7 +32,11 @@ final class FaceTest {
         constants();
         face();
         classesInside();
-        Check.due("forbidden words", forbiddenWords(), "");
+        String code = code();
+        Check.due("files of the program", filesOfTheProgram(), "QuantisedLists.java");
+        Check.due("forbidden words", forbiddenWords(code), "");
+        Check.due("names from outside", namesFromOutside(code), "[Math.abs, Math.floorDiv, Math.max, Math.min]");
+        lengthsAndDepths(code);
         Check.end();
     }
 
@@ -54,8 +64,8 @@ final class FaceTest {
 
     private static String shown(Class<?> type) {
         return Arrays.stream(type.getDeclaredMethods()).filter(m -> !Modifier.isPrivate(m.getModifiers()))
-                .map(m -> (Modifier.isPublic(m.getModifiers()) ? "" : "not public ") + m.getReturnType() + " " + m.getName()
-                        + Arrays.stream(m.getParameterTypes()).map(String::valueOf)
+                .map(m -> (Modifier.isPublic(m.getModifiers()) ? "" : "not public ") + m.getReturnType() + " "
+                        + m.getName() + Arrays.stream(m.getParameterTypes()).map(String::valueOf)
                                 .collect(Collectors.joining(", ", "(", ")")))
                 .collect(Collectors.toCollection(TreeSet::new)).toString();
     }
@@ -91,11 +101,62 @@ final class FaceTest {
         }
     }
 
-    private static String forbiddenWords() throws Exception {
-        String code = Files.readString(Path.of("src/main/java/QuantisedLists.java"))
+    /** The text of the program without its comments. */
+    private static String code() throws Exception {
+        return Files.readString(Path.of("src/main/java/QuantisedLists.java"))
                 .replaceAll("(?s)/\\*.*?\\*/", "").replaceAll("//[^\n]*", "");
+    }
+
+    private static String filesOfTheProgram() throws Exception {
+        try (Stream<Path> all = Files.walk(Path.of("src/main"))) {
+            return all.filter(Files::isRegularFile).map(p -> p.getFileName().toString())
+                    .collect(Collectors.joining(" "));
+        }
+    }
+
+    /** Rules 1, 3, 4, 6 and 13. */
+    private static String forbiddenWords(String code) {
         Pattern forbidden = Pattern.compile("\\b(throw|throws|try|catch|finally|synchronized|assert|import|package|"
-                + "volatile|native|transient|protected|Object|Thread|Random|Exact)\\b|->|::|\"|static \\{|System\\.");
-        return forbidden.matcher(code).results().map(r -> r.group()).collect(Collectors.joining(" "));
+                + "volatile|native|transient|protected|Object|Thread|Random|Exact|double|float|goto|strictfp)\\b"
+                + "|->|::|\"|static \\{|System\\.|\\[\\]\\[\\]\\[\\]");
+        return forbidden.matcher(code).results().map(MatchResult::group).collect(Collectors.joining(" "));
+    }
+
+    /** Rule 4: what stands before a dot and begins with a capital letter is a class of our own, or is named here. */
+    private static String namesFromOutside(String code) {
+        Set<String> own = Arrays.stream(FACE.getDeclaredClasses()).map(Class::getSimpleName)
+                .collect(Collectors.toSet());
+        return Pattern.compile("\\b([A-Z]\\w*)\\.(\\w+)").matcher(code).results().filter(r -> !own.contains(r.group(1)))
+                .map(MatchResult::group).collect(Collectors.toCollection(TreeSet::new)).toString();
+    }
+
+    /** Rules 8 and 11; methods of the same name are taken for one, which makes no depth less than it is. */
+    private static void lengthsAndDepths(String code) {
+        Map<String, Set<String>> calls = new TreeMap<>();
+        Matcher method = Pattern.compile("(?ms)^((?: {4}){1,2})(?:\\w+ )+?(?:\\w+(?:\\[\\])* )?(\\w+)\\([^)]*\\) \\{$"
+                + "(.*?)^\\1\\}").matcher(code);
+        while (method.find()) {
+            Check.due(method.group(2) + " has at most sixty lines", method.group().lines().count() <= 60, true);
+            Set<String> called = calls.computeIfAbsent(method.group(2), name -> new TreeSet<>());
+            Pattern.compile("(\\w+)\\(").matcher(method.group(3)).results().forEach(r -> called.add(r.group(1)));
+        }
+        for (String m : METHODS) {
+            String name = m.replaceAll("^\\w+ (\\w+)\\(.*", "$1");
+            Check.due("there is a text of " + name, calls.containsKey(name), true);
+            Check.due(name + " goes at most eight deep", depth(name, calls, new HashSet<>()) <= 8, true);
+        }
+    }
+
+    /** How many calls stand open at once; a thousand when a method calls itself. */
+    private static int depth(String name, Map<String, Set<String>> calls, Set<String> open) {
+        if (!open.add(name)) {
+            return 1000;
+        }
+        int most = 0;
+        for (String called : calls.get(name)) {
+            most = Math.max(most, calls.containsKey(called) ? depth(called, calls, open) : 0);
+        }
+        open.remove(name);
+        return most + 1;
     }
 }

@@ -1,7 +1,7 @@
 /** Promise 21 (load). */
 final class LoadTest {
     private static final int NONE = QuantisedLists.NONE;
-    /** PRODUCT, two lists at 0 and (300, -300, 0, 0), two words a part, the entries 3, 258 and 999; without the CHECK. */
+    /** PRODUCT, lists at 0 and (300, -300, 0, 0), two words a part, the entries 3, 258 and 999; without the CHECK. */
     private static final int[] GOOD = {86, 1, 0, 2, 2, 3, 3, 6, 7, 8,
         1, 44, 1, 44, 1, 44, 1, 44, 2, 88, 0, 0, 1, 44, 1, 44,
         1, 44, 1, 44, 1, 54, 1, 44, 1, 44, 1, 44, 1, 44, 1, 64,

@@ -273,7 +273,8 @@ final class RandomRunsTest {
             }
             int place = random.nextInt(3) == 0 ? random.nextInt(Math.min(11, plain.fileLength()))
                     : random.nextInt(plain.fileLength());
-            int b = random.nextBoolean() ? random.nextInt(256) : Math.max(0, plain.byteAt(place) - 1 + random.nextInt(3));
+            int b = random.nextBoolean() ? random.nextInt(256)
+                    : Math.max(0, plain.byteAt(place) - 1 + random.nextInt(3));
             alter(place, b);
             if (random.nextInt(6) != 0) {
                 alter(plain.fileLength() - 1, plain.dueCheck());

@@ -206,7 +206,8 @@ final class TrainTest {
             {Integer.MAX_VALUE, 0, 0}, {0, Integer.MAX_VALUE, 0}, {0, 0, Integer.MAX_VALUE},
             {Integer.MIN_VALUE, 0, 0}, {0, Integer.MIN_VALUE, 0}, {0, 0, Integer.MIN_VALUE}};
         for (int[] a : none) {
-            Check.due("word(" + a[0] + ", " + a[1] + ", " + a[2] + ") of PRODUCT", index.word(a[0], a[1], a[2]), ABSENT);
+            Check.due("word(" + a[0] + ", " + a[1] + ", " + a[2] + ") of PRODUCT",
+                    index.word(a[0], a[1], a[2]), ABSENT);
         }
         index.train(1, 1, 4, 0);
         Check.due("word(3, 3, 0) of SCALAR", index.word(3, 3, 0), 1);
