@@ -203,8 +203,8 @@ final class SentencesTest {
         for (int kind = 0; kind <= 2; kind++) {
             Run.of("trained", "sample 1 2 3 4; centre 0 0 = -1000; entries 0 = -1; add 1 0 0 0 0 = -1; "
                     + "search 0 0 0 0 1 = -1; save = -1; turn 1 2 3 4 = true",
-                    "train 1 " + kind + " 1 0 = 0; centre 0 0 = 1; entries 0 = 0; add 1 0 0 0 0 = 0; "
-                            + "search 0 0 0 0 1 = 1; save = " + (kind == 2 ? 25 : 33) + "; turn 1 2 3 4 = false");
+                    "train 1 " + kind + " 1 0 = 0; turn 1 2 3 4 = false; centre 0 0 = 1; entries 0 = 0; "
+                            + "add 1 0 0 0 0 = 0; search 0 0 0 0 1 = 1; save = " + (kind == 2 ? 25 : 33));
         }
     }
 

@@ -5,7 +5,7 @@ import java.lang.reflect.InvocationTargetException;
  * never ends must fail a test and not hold it up for good.
  */
 final class TimeLimit {
-    private static final int SECONDS = 180;
+    private static final int SECONDS = 90;
 
     public static void main(String[] args) throws Exception {
         Thread watch = new Thread(TimeLimit::stopLater);
